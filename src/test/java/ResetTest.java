@@ -17,12 +17,13 @@ final class ResetTest {
 
     private static HartDesk used() {
         HartDesk x = new HartDesk();
+        // The trap comes first, as it would take STATUS, BACK and VALUE back to 0.
+        Asm.doWord(x, Asm.CALL);
         for (int number : Asm.CONTROLS) {
             if (number != Asm.PENDING && number != Asm.DONE) {
-                Asm.writeControl(x, number, -1 & ~8);
+                Asm.writeControl(x, number, -1);
             }
         }
-        Asm.doWord(x, Asm.CALL);
         for (int k = 1; k < 32; k++) {
             x.put(k, k + 100);
         }
@@ -38,6 +39,9 @@ final class ResetTest {
         x.line(up);
         int steps = x.state(1);
         check.same("steps ahead of it", steps, 8);
+        for (int number : Asm.CONTROLS) {
+            check.yes("control(" + number + ") ahead of it", x.control(number) != 0 || number == Asm.PENDING && !up);
+        }
         x.reset(all);
         for (int k = 0; k <= 32; k++) {
             check.same("register(" + k + ")", x.register(k), 0);
