@@ -118,7 +118,7 @@ public final class HartDesk {
             case 1:
                 return stepsInAll;
             case 2:
-                return controls.done & Integer.MAX_VALUE;
+                return controls.done & 0x7FFFFFFF;
             case 3:
                 return traps;
             case 4:

@@ -79,6 +79,15 @@ final class Asm {
         return v >>> low & (1 << high - low + 1) - 1;
     }
 
+    static boolean isControl(int number) {
+        for (int each : CONTROLS) {
+            if (each == number) {
+                return true;
+            }
+        }
+        return false;
+    }
+
     /** A desk with these words from address 0 on. */
     static HartDesk desk(int... words) {
         HartDesk x = new HartDesk();

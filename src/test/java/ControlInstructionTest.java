@@ -164,18 +164,9 @@ final class ControlInstructionTest {
         check.same("state(2)", x.state(2), 3);
     }
 
-    private static boolean known(int number) {
-        for (int each : Asm.CONTROLS) {
-            if (each == number) {
-                return true;
-            }
-        }
-        return false;
-    }
-
     private static void otherNumbers(Check check) {
         for (int number = 0; number < 4096; number++) {
-            if (!known(number)) {
+            if (!Asm.isControl(number)) {
                 HartDesk x = new HartDesk();
                 refused(check, x, Asm.control(2, 4, 0, number));
                 refused(check, x, Asm.control(7, 4, 0, number));

@@ -28,7 +28,7 @@ final class ControlTest {
 
     private static void otherNumbers(Check check) {
         for (int number = -5000; number < 10000; number++) {
-            if (!isControl(number)) {
+            if (!Asm.isControl(number)) {
                 refused(check, number);
             }
         }
@@ -41,14 +41,5 @@ final class ControlTest {
     private static void refused(Check check, int number) {
         HartDesk x = new HartDesk();
         check.noSuchElement("control(" + number + ")", () -> x.control(number));
-    }
-
-    private static boolean isControl(int number) {
-        for (int each : Asm.CONTROLS) {
-            if (each == number) {
-                return true;
-            }
-        }
-        return false;
     }
 }
